@@ -1160,9 +1160,9 @@ public final class JobText {
         private Statement changed;
         private Statement ahead;
 
-        void open(Statement opened, int row) {
+        void open(Statement opened) {
             own = opened;
-            first = row;
+            first = 0;
             changed = null;
             ahead = null;
         }
@@ -1270,15 +1270,15 @@ public final class JobText {
             }
             frame.next++;
             int mark = rows.size();
-            int overrideMark = overrideCount;
             if (s.operation == SET) {
                 passSet(s, frame);
             } else {
                 write(s, frame);
             }
             if (s.calls()) {
-                gather(frame);
-                call(s, mark, overrideMark);
+                int overrideFirst = overrideCount;
+                call(s, frame, mark);
+                fillOverrides(overrideFirst, frame);
             } else {
                 rows.cut(mark);
                 addBehind(s, frame);
@@ -1447,8 +1447,8 @@ public final class JobText {
             rows.cut(mark);
         }
 
-        /** Opens the procedure that an EXEC calls, whose rows and overrides begin at those given. */
-        private void call(Statement s, int execFirst, int overrideFirst) {
+        /** Opens the procedure that an EXEC of the frame calls, whose rows begin at one; behind it come its overrides. */
+        private void call(Statement s, Frame frame, int execFirst) {
             if (outcome != 0) {
                 return;
             }
@@ -1462,6 +1462,8 @@ public final class JobText {
                 keepCalled(named);
                 return;
             }
+            int overrideFirst = overrideCount;
+            gather(frame);
             if (!aimAll(overrideFirst, procedure)) {
                 outcome = NO_STEP;
                 return;
@@ -1473,10 +1475,10 @@ public final class JobText {
             opened.overrideEnd = overrideCount;
         }
 
-        /** Passes the DDs that come next in the frame and keeps them as overrides, as they are replaced here. */
+        /** Passes the DDs that come next in the frame and keeps them as overrides. */
         private void gather(Frame frame) {
             int most = frame.body == null ? 0 : frame.body.size();
-            for (int n = 0; n < most && outcome == 0; n++) {
+            for (int n = 0; n < most; n++) {
                 Statement s = frame.peek();
                 if (s == null || s.operation != DD) {
                     return;
@@ -1485,9 +1487,19 @@ public final class JobText {
                 if (overrideCount >= overrides.size()) {
                     overrides.add(new Change());
                 }
-                overrides.get(overrideCount).open(s, rows.size());
+                overrides.get(overrideCount).open(s);
                 overrideCount++;
-                fill(s, frame);
+            }
+        }
+
+        /** The overrides' rows, replaced where they stand: ahead of what the procedure sets. */
+        private void fillOverrides(int from, Frame frame) {
+            for (int i = from; outcome == 0 && i < overrideCount && i < overrides.size(); i++) {
+                Change override = overrides.get(i);
+                override.first = rows.size();
+                if (override.own != null) {
+                    fill(override.own, frame);
+                }
             }
         }
 
