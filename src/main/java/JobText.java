@@ -1428,22 +1428,26 @@ public final class JobText {
         private void addBehind(Statement s, Frame frame) {
             for (int i = frame.overrideFirst; i < frame.overrideEnd && i < overrides.size(); i++) {
                 Change override = overrides.get(i);
-                if (outcome == 0 && override.own != null && override.isAddedBehind(s)) {
+                if (outcome == 0 && override.isAddedBehind(s)) {
                     addLine(override);
                 }
             }
         }
 
         private void addLine(Change override) {
+            Statement own = override.own;
+            if (own == null) {
+                return;
+            }
             if (listing.isFull()) {
                 outcome = TOO_MANY_LINES;
                 return;
             }
             int mark = rows.size();
-            for (int i = override.first; i < override.first + override.own.count; i++) {
+            for (int i = override.first; i < override.first + own.count; i++) {
                 rows.copy(rows, i);
             }
-            listing.add(override.own, frameCount - 1, true, rows, mark);
+            listing.add(own, frameCount - 1, true, rows, mark);
             rows.cut(mark);
         }
 

@@ -375,6 +375,7 @@ public final class PromiseTests {
         due("an end of data behind //", faultsOf("//J JOB", "// EXEC PGM=A", "//D DD *", "X", "//*", "/*"), "6:1:1");
         due("a key of that value", faultsOf("//J JOB", "// EXEC PGM=A", "//D DD K=*", "X"), "4:1:1");
         due("no DD", faultsOf("//J JOB *", "X"), "2:1:1");
+        due("other values", faultsOf("//J JOB", "// EXEC PGM=A", "//D DD +", "X", "//E DD XATA", "X", "//F DD DATE", "X", "//G DD **", "X"), "4:1:1 6:1:1 8:1:1 10:1:1");
         due("a quoted *", faultsOf("//J JOB", "// EXEC PGM=A", "//D DD '*'", "X"), "4:1:1");
     }
 
@@ -553,7 +554,11 @@ public final class PromiseTests {
         x.expand();
         due("missing in a SET", x.count(5), 1);
         x.expand();
-        due("each expand begins anew", x.count(5), 1);
+        due("each expand counts anew", x.count(5), 1);
+        x = of("//J JOB", "// EXEC PGM=&A", "// SET A=1");
+        x.expand();
+        due("expand again", x.expand(), 2);
+        due("no SET is left of the expand ahead", lettersOf(x, 1) + x.count(5), "PGM=1");
     }
 
     private static void expandQuotes() {
