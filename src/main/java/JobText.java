@@ -228,6 +228,15 @@ public final class JobText {
         return length;
     }
 
+    /** The k-th sign of a packed name; NONE beyond. */
+    private static int nameSign(long name, int k) {
+        int length = nameLength(name);
+        if (k < 0 || k >= length) {
+            return NONE;
+        }
+        return (int) (name >>> (8 * (length - 1 - k))) & 255;
+    }
+
     private static String operationName(int operation) {
         switch (operation) {
             case JOB:
@@ -410,11 +419,8 @@ public final class JobText {
             if (named == 0) {
                 return valueSign(i, k);
             }
-            if (k < 0) {
-                return NONE;
-            }
             if (k < named) {
-                return (int) (key(i) >>> (8 * (named - 1 - k))) & 255;
+                return nameSign(key(i), k);
             }
             return k == named ? '=' : valueSign(i, k - named - 1);
         }
@@ -436,13 +442,18 @@ public final class JobText {
             return true;
         }
 
-        /** The value as a packed name; 0 if it is longer than any, or empty. */
+        /** The value as a packed name; 0 if it is none. */
         long asName(int i) {
+            if (length(i) > NAME_SIGNS || !isLetter(valueSign(i, 0))) {
+                return 0;
+            }
             long name = 0;
-            if (length(i) <= NAME_SIGNS) {
-                for (int k = 0; k < length(i); k++) {
-                    name = name << 8 | valueSign(i, k);
+            for (int k = 0; k < length(i); k++) {
+                int c = valueSign(i, k);
+                if (!isNameSign(c)) {
+                    return 0;
                 }
+                name = name << 8 | c;
             }
             return name;
         }
@@ -470,16 +481,18 @@ public final class JobText {
             this.first = rows.size();
         }
 
-        boolean has(long key) {
-            return rows.find(key, first, count) != NONE;
-        }
-
         boolean runs() {
             return operation == EXEC && rows.find(PGM_KEY, first, count) != NONE;
         }
 
         boolean calls() {
             return operation == EXEC && rows.find(PGM_KEY, first, count) == NONE;
+        }
+
+        /** The name that an EXEC calls if it doesn't run a program; 0 without one. */
+        long callee() {
+            int named = rows.find(PROC_KEY, first, count);
+            return rows.asName(named == NONE ? rows.find(0, first, count) : named);
         }
 
         int tell(int what) {
@@ -681,7 +694,7 @@ public final class JobText {
         private static boolean isChosenWell(Statement s) {
             switch (s.operation) {
                 case EXEC:
-                    return s.has(PGM_KEY) || s.has(PROC_KEY) || s.places > 0;
+                    return s.runs() || s.callee() != 0;
                 case SET:
                     return s.count > 0 && s.places == 0;
                 case IF:
@@ -1206,10 +1219,10 @@ public final class JobText {
         private final Rows sets = new Rows();
         private final ArrayList<Frame> frames = new ArrayList<Frame>();
         private final ArrayList<Change> overrides = new ArrayList<Change>();
-        private final StringBuilder called = new StringBuilder();
         private ArrayList<Body> procedures;
         private int frameCount;
         private int overrideCount;
+        private long called;
         private int missing;
         private int outcome;
 
@@ -1227,14 +1240,14 @@ public final class JobText {
         }
 
         int calledSign(int k) {
-            return k < 0 || k >= called.length() ? NONE : called.charAt(k);
+            return nameSign(called, k);
         }
 
         void start(Text text) {
             listing.clear();
             rows.cut(0);
             sets.cut(0);
-            called.setLength(0);
+            called = 0;
             procedures = text.procedures();
             frameCount = 0;
             overrideCount = 0;
@@ -1456,14 +1469,10 @@ public final class JobText {
             if (outcome != 0) {
                 return;
             }
-            int named = rows.find(PROC_KEY, execFirst, s.count);
-            if (named == NONE) {
-                named = rows.find(0, execFirst, s.count);
-            }
-            Body procedure = findProcedure(rows.asName(named));
+            Body procedure = findProcedure(s.callee());
             if (procedure == null || isBeingExpanded(procedure)) {
                 outcome = procedure == null ? NO_PROCEDURE : RING;
-                keepCalled(named);
+                called = s.callee();
                 return;
             }
             int overrideFirst = overrideCount;
@@ -1523,13 +1532,6 @@ public final class JobText {
                 }
             }
             return false;
-        }
-
-        private void keepCalled(int row) {
-            int length = rows.length(row);
-            for (int k = 0; k < length; k++) {
-                called.append((char) rows.valueSign(row, k));
-            }
         }
 
         private boolean aimAll(int from, Body procedure) {

@@ -202,7 +202,7 @@ public final class ModelTests {
         void exec() {
             String name = one("", "S", "S", "U", "V", "W");
             boolean again = !name.isEmpty() && !steps.add(name);
-            String what = one("PGM=X", "PGM=X", "PGM=X", "PGM=X", "PGM=X", "PGM=X", "PGM=&A", "P", "Q", "PROC=R", "T", one("P", "P", "Q", "T", "&B", "PROC=&C", "NONE"));
+            String what = one("PGM=X", "PGM=X", "PGM=X", "PGM=X", "PGM=X", "PGM=X", "PGM=&A", "P", "Q", "PROC=R", "T", one("P", "P", "Q", "T", "NONE", "PROC=NONE", faulty ? one("&B", "PROC=&C", "'P'", "PROC=,P", "(P)", "P.Q") : "R"));
             line("//" + (again && !faulty ? "" : name) + " EXEC " + what + one("", "," + parameters(3, true)));
             hasStep = true;
             calls = !what.startsWith("PGM");
@@ -322,7 +322,8 @@ public final class ModelTests {
         }
 
         String callee() {
-            return get("PROC") != null ? get("PROC") : get("");
+            String name = get("PROC") != null ? get("PROC") : get("");
+            return name != null && name.matches("[A-Z][A-Z0-9]{0,7}") ? name : null;
         }
 
         long places() {
@@ -744,7 +745,7 @@ public final class ModelTests {
                     write(o, overrides.get(o), stack.size(), true);
                 }
                 if (s.op == 2 && s.get("PGM") == null) {
-                    String name = find(row, "PROC") != null ? find(row, "PROC") : find(row, "");
+                    String name = s.callee();
                     List<St> callee = procedures.containsKey(name) ? procedures.get(name) : library.get(name);
                     if (callee == null || stack.contains(name)) {
                         ring = name;

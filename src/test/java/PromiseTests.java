@@ -469,7 +469,13 @@ public final class PromiseTests {
         due("SET", faultsOf("//J JOB", "// SET", "// SET A", "// SET A=B,C", "// SET A=B", "// SET A="), "2:4:6 3:4:6 4:4:6");
         due("IF", faultsOf("//J JOB", "// IF", "// IF A=B", "// IF A=B,(C=D)", "// ENDIF"), "2:4:6 3:4:6");
         due("a continued statement is told in its first line", faultsOf("//J JOB", "// SET A=B,", "//  C"), "2:4:6");
-        due("a faulty statement is not there", faultsOf("//J JOB", "// EXEC", "//D DD"), "2:4:6 3:5:4");
+        due("a name to call", faultsOf("//J JOB", "// EXEC A2345678", "// EXEC PROC=A2345678", "// EXEC A=&B,Z,'C',PROC=", "// EXEC X,&A", "// EXEC PROC=P,&A", "// EXEC PROC=P,PROC=&A"), "4:4:6");
+        due("what is no name by place", faultsOf("//J JOB", "// EXEC \"", "// EXEC &A", "// EXEC P&A", "// EXEC 1A", "// EXEC A23456789", "// EXEC a", "// EXEC 'P'", "// EXEC (P)", "// EXEC ,P", "// EXEC &A,P", "// EXEC P.Q"),
+                "2:4:6 3:4:6 4:4:6 5:4:6 6:4:6 7:4:6 8:4:6 9:4:6 10:4:6 11:4:6 12:4:6");
+        due("what is no name by key", faultsOf("//J JOB", "// EXEC PROC=", "// EXEC PROC=&A", "// EXEC PROC='P'", "// EXEC PROC=A23456789", "// EXEC PROC=&A,PROC=P", "// EXEC PROC=&A,P"),
+                "2:4:6 3:4:6 4:4:6 5:4:6 6:4:6 7:4:6");
+        due("a program may be any", faultsOf("//J JOB", "// EXEC PGM=", "// EXEC PGM=&A", "// EXEC PGM='A B',PROC=&A,&B"), "");
+        due("a faulty statement is not there", faultsOf("//J JOB", "// EXEC", "//D DD", "// EXEC &A", "//D DD"), "2:4:6 3:5:4 4:4:6 5:5:4");
         due("a faulty IF is not there", faultsOf("//J JOB", "// IF", "// ENDIF"), "2:4:6 3:4:4");
     }
 
@@ -541,7 +547,7 @@ public final class PromiseTests {
         due("a procedure's symbols are its own", x.expand(), 4);
         due("its caller's is not seen", lettersOf(x, 3), "PGM=(E)");
         due("and is missing", x.count(5), 1);
-        due("a name to call is replaced too", expandedLetters(joined(nested, "// SET N=Q", "// EXEC &N,A=1,B=2")), "Q,A=1,B=2|PGM=1(2)");
+        due("behind a name to call", expandedLetters(joined(nested, "// SET N=1", "// EXEC A=&N,Q,&N,B=2")), "A=1,Q,1,B=2|PGM=1(2)");
         due("symbols in IF", expandedLetters(joined(head, "// IF (&S=1)", "// ENDIF")), "(1=1)|");
     }
 
@@ -700,11 +706,11 @@ public final class PromiseTests {
         due("twice is no ring", x.expand() + ringOf(x), "3");
         x = of("//P JOB", "//P PROC", "// PEND", "// EXEC P");
         due("a job of that name is none", x.expand(), 2);
-        x = of("//J JOB", "// SET A='NOT A NAME'", "// EXEC &A");
-        due("what is no name isn't there", x.expand() + ringOf(x), "-5NOT A NAME");
-        due("nothing", expandOf("//J JOB", "// EXEC &A"), -5);
+        x = of("//J JOB", "// EXEC P,PROC=A2345678,PROC=Q");
+        due("the first key PROC's name", x.expand() + ringOf(x), "-5A2345678");
+        due("a symbol is no name to call", expandOf("//J JOB", "// SET A=P", "//P PROC", "// PEND", "// EXEC &A"), -2);
         readOf(x, "//J JOB");
-        due("the name stays behind read", ringOf(x), "NOT A NAME");
+        due("the name stays behind read", ringOf(x), "A2345678");
         due("expand", x.expand(), 1);
         due("and goes with the next expand", ringOf(x), "");
         x = of("//P PROC", "// EXEC Q", "// PEND");
