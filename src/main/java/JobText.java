@@ -1290,8 +1290,9 @@ public final class JobText {
             }
             if (s.calls()) {
                 int overrideFirst = overrideCount;
-                call(s, frame, mark);
+                gather(frame);
                 fillOverrides(overrideFirst, frame);
+                call(s, mark, overrideFirst);
             } else {
                 rows.cut(mark);
                 addBehind(s, frame);
@@ -1464,8 +1465,8 @@ public final class JobText {
             rows.cut(mark);
         }
 
-        /** Opens the procedure that an EXEC of the frame calls, whose rows begin at one; behind it come its overrides. */
-        private void call(Statement s, Frame frame, int execFirst) {
+        /** Opens the procedure that an EXEC calls, once its rows and its overrides, the last ones kept, have been replaced. */
+        private void call(Statement s, int execFirst, int overrideFirst) {
             if (outcome != 0) {
                 return;
             }
@@ -1475,8 +1476,6 @@ public final class JobText {
                 called = s.callee();
                 return;
             }
-            int overrideFirst = overrideCount;
-            gather(frame);
             if (!aimAll(overrideFirst, procedure)) {
                 outcome = NO_STEP;
                 return;
@@ -1505,7 +1504,7 @@ public final class JobText {
             }
         }
 
-        /** The overrides' rows, replaced where they stand: ahead of what the procedure sets. */
+        /** The overrides' rows, replaced where they stand: ahead of the procedure's turn, whether it is there or not. */
         private void fillOverrides(int from, Frame frame) {
             for (int i = from; outcome == 0 && i < overrideCount && i < overrides.size(); i++) {
                 Change override = overrides.get(i);

@@ -747,17 +747,13 @@ public final class ModelTests {
                 if (s.op == 2 && s.get("PGM") == null) {
                     String name = s.callee();
                     List<St> callee = procedures.containsKey(name) ? procedures.get(name) : library.get(name);
+                    Map<St, List<Par>> own = new LinkedHashMap<>();
+                    for (; i + 1 < statements.size() && statements.get(i + 1).op == 3; i++) {
+                        own.put(statements.get(i + 1), replaced(statements.get(i + 1), called, head));
+                    }
                     if (callee == null || stack.contains(name)) {
                         ring = name;
                         throw new Fail(callee == null ? -5 : -1);
-                    }
-                    Map<St, List<Par>> own = new LinkedHashMap<>();
-                    for (; i + 1 < statements.size() && statements.get(i + 1).op == 3; i++) {
-                        own.put(statements.get(i + 1), null);
-                    }
-                    aim(callee, own, new HashMap<>(), new HashMap<>());
-                    for (St o : own.keySet()) {
-                        own.put(o, replaced(o, called, head));
                     }
                     List<String> deeper = new ArrayList<>(stack);
                     deeper.add(name);

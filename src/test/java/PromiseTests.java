@@ -28,6 +28,7 @@ public final class PromiseTests {
         overridesChange();
         overridesAdd();
         overridesOfSteps();
+        overridesAheadOfTheCall();
         expandFailures();
         expandLimits();
         rings();
@@ -639,6 +640,30 @@ public final class PromiseTests {
         x.expand();
         due("no name then", x.ring(0), -1);
         due("no lines then", x.count(4), 0);
+    }
+
+    /** The overrides' values are met ahead of the procedure's turn, so ahead of -5, a ring and -6. */
+    private static void overridesAheadOfTheCall() {
+        due("missing ahead of -5", outcomeOf("//J JOB", "// EXEC PROC", "//M DD E,A=&B"), "-5 1 PROC");
+        due("of all overrides", outcomeOf("//J JOB", "// EXEC N,K=&A", "//M DD &B", "// DD &C.&D", "//S.M DD"), "-5 4 N");
+        due("PROC to PEND aside", outcomeOf("//J JOB", "// EXEC N", "//M DD &B", "//P PROC A=&X", "// EXEC PGM=&Y", "// PEND", "//O DD &C"), "-5 2 N");
+        due("not of a DD that is no override", outcomeOf("//J JOB", "// EXEC N", "// SET A=1", "//M DD &B"), "-5 0 N");
+        due("not what is replaced", outcomeOf("//J JOB", "// SET B=1", "// EXEC N", "//M DD &B&C"), "-5 1 N");
+        due("in a procedure", outcomeOf("//J JOB", "//P PROC A=1", "// EXEC N", "//M DD &A&B&C", "// PEND", "// EXEC P,B=2", "//S.M DD &A"), "-6 1 ");
+        due("in a procedure that is called", outcomeOf("//J JOB", "//P PROC A=1", "// EXEC N", "//M DD &A&B&C", "// PEND", "// EXEC P,B=2"), "-5 1 N");
+        due("ahead of a ring", outcomeOf("//J JOB", "//P PROC", "// EXEC P", "//S.D DD &A", "// PEND", "// EXEC P"), "-1 1 P");
+        due("ahead of -6", outcomeOf("//J JOB", "//P PROC", "// EXEC PGM=&A", "// PEND", "// EXEC P", "//D DD &A", "//U.D DD &B"), "-6 2 ");
+        String[] head = {"//J JOB", "// SET B=ABCDEFGHIJKLMNOPQRSTUVWXYZ1234"};
+        due("-4 ahead of -5", outcomeOf(joined(head, "// EXEC N", "//M DD &A,&B.5,&A")), "-4 1 ");
+        due("-4 ahead of a ring", outcomeOf(joined(head, "//P PROC", "// EXEC P", "//D DD &B.5", "// PEND", "// EXEC P")), "-4 0 ");
+        due("-4 ahead of -6", outcomeOf(joined(head, "//P PROC", "// PEND", "// EXEC P", "//S.D DD", "//S.E DD &B.5")), "-4 0 ");
+        due("-4 of the EXEC ahead of its overrides", outcomeOf(joined(head, "// EXEC N,A=&B.5", "//M DD &A")), "-4 0 ");
+    }
+
+    /** What expand() answers, how many symbols are missing, and the ring's name. */
+    private static String outcomeOf(String... lines) {
+        JobText x = of(lines);
+        return x.expand() + " " + x.count(5) + " " + ringOf(x);
     }
 
     private static void expandFailures() {
