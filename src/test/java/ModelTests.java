@@ -43,13 +43,7 @@ public final class ModelTests {
         Model model = new Model();
         for (int texts = 0; texts < 3; texts++) {
             String text = new Maker(random).text(texts < 2);
-            for (int i = 0; i < text.length(); i += 8) {
-                long c = 0;
-                for (int k = i; k < i + 8 && k < text.length(); k++) {
-                    c = c << 8 | text.charAt(k);
-                }
-                x.sign(c);
-            }
+            TextTest.load(x, text);
             String what = "seed " + seed + " text " + texts + "\n" + text;
             due(what + "read", x.read(), model.read(text));
             due(what + "state", state(x), model.state());
@@ -241,10 +235,13 @@ public final class ModelTests {
         String parameters(int most, boolean keys) {
             StringBuilder s = new StringBuilder();
             for (int n = 1 + random.nextInt(most); n > 0; n--) {
+                String value = value();
+                if (value.length() > 25 && s.length() > 0 && s.charAt(s.length() - 1) == ',') {
+                    s.append("\n// ");
+                }
                 if (keys || random.nextInt(2) == 0) {
                     s.append(one("A", "B", "C", "D", "K", "LONGNAME")).append('=');
                 }
-                String value = value();
                 s.append(value.isEmpty() && n == 1 ? "1" : value);
                 if (n > 1) {
                     s.append(',');
@@ -258,6 +255,10 @@ public final class ModelTests {
         }
 
         String value() {
+            if (random.nextInt(60) == 0) {
+                int more = faulty ? random.nextInt(2) : 0;
+                return one("Y".repeat(30 + more), "'" + "Z ".repeat(14 + more) + "'", "(" + "&A,".repeat(9 + more) + ")");
+            }
             return one("", "P", "Q", "R", "1", "&A", "&B.", "&C..X", "&&A", "&LONGNAMEX", "'&A &B'", "'I''M'", "''", "(&A,B=(1,2))", "A(B)", "X'Y Z'", "&A&B&C&D", "&A&A&A", "('&A',\n// &B)", "ABCDEFGHIJKLM", "&1&");
         }
 
@@ -265,7 +266,18 @@ public final class ModelTests {
             all.append(lines);
         }
 
+        /** The statement's first line up to the last columns that count, or beyond them if it is to be faulty. */
+        String widened(String s) {
+            int name = s.indexOf(' ');
+            int end = s.indexOf('\n') < 0 ? s.length() : s.indexOf('\n');
+            int more = 71 - end + (faulty ? random.nextInt(5) - 2 : -random.nextInt(2));
+            return name < 0 || more <= 0 ? s : s.substring(0, name) + " ".repeat(more) + s.substring(name);
+        }
+
         void line(String s) {
+            if (random.nextInt(25) == 0) {
+                s = widened(s);
+            }
             if (faulty && random.nextInt(12) == 0) {
                 int at = random.nextInt(s.length() + 1);
                 String sign = one(" ", ",", "=", "'", "(", ")", ".", "1", "A", "\n", "&", "/", "*", "");

@@ -1,8 +1,5 @@
 /** Tests of the document's promises, one method or more for each; prints every answer that is not due. */
-public final class PromiseTests {
-    private static int checks = 0;
-    private static int wrong = 0;
-
+public final class PromiseTests extends TextTest {
     public static void main(String[] args) {
         newObject();
         signs();
@@ -34,121 +31,7 @@ public final class PromiseTests {
         rings();
         linesStay();
         counts();
-        System.out.println(checks + " checks, " + wrong + " wrong");
-        if (wrong != 0) {
-            System.exit(1);
-        }
-    }
-
-    // ---- helpers
-
-    private static void due(String what, Object got, Object want) {
-        checks++;
-        if (!got.equals(want)) {
-            wrong++;
-            System.out.println(what + " answered " + got + ", due is " + want);
-        }
-    }
-
-    private static void load(JobText x, String text) {
-        for (int i = 0; i < text.length(); i += 8) {
-            long c = 0;
-            for (int k = i; k < i + 8; k++) {
-                c = c << 8 | (k < text.length() ? text.charAt(k) : 0);
-            }
-            x.sign(c);
-        }
-    }
-
-    private static String text(String... lines) {
-        return String.join("\n", lines) + "\n";
-    }
-
-    private static int readOf(JobText x, String... lines) {
-        load(x, text(lines));
-        return x.read();
-    }
-
-    private static JobText of(String... lines) {
-        JobText x = new JobText();
-        readOf(x, lines);
-        return x;
-    }
-
-    /** The faults as line:column:kind, and :nearest if there is one. */
-    private static String faultsOf(String... lines) {
-        return faultList(of(lines));
-    }
-
-    private static String faultList(JobText x) {
-        StringBuilder all = new StringBuilder();
-        for (int i = 0; x.fault(i, 0) != JobText.NONE; i++) {
-            all.append(i == 0 ? "" : " ").append(x.fault(i, 0)).append(':').append(x.fault(i, 1)).append(':').append(x.fault(i, 2));
-            if (x.fault(i, 3) != 0) {
-                all.append(':').append(x.fault(i, 3));
-            }
-        }
-        return all.toString();
-    }
-
-    private static String parameterOf(JobText x, int i, int which) {
-        StringBuilder all = new StringBuilder();
-        for (int k = 0; x.parameter(i, which, k) != JobText.NONE; k++) {
-            all.append((char) x.parameter(i, which, k));
-        }
-        return all.toString();
-    }
-
-    private static String lettersOf(JobText x, int i) {
-        StringBuilder all = new StringBuilder();
-        for (int k = 0; x.letter(i, k) != JobText.NONE; k++) {
-            all.append((char) x.letter(i, k));
-        }
-        return all.toString();
-    }
-
-    private static String ringOf(JobText x) {
-        StringBuilder all = new StringBuilder();
-        for (int k = 0; x.ring(k) != JobText.NONE; k++) {
-            all.append((char) x.ring(k));
-        }
-        return all.toString();
-    }
-
-    /** The lines as line/operation/depth/count/changed and the letters, parted by |. */
-    private static String listing(JobText x) {
-        StringBuilder all = new StringBuilder();
-        for (int i = 0; x.at(i, 0) != JobText.NONE; i++) {
-            all.append(i == 0 ? "" : "|");
-            for (int what = 0; what < 5; what++) {
-                all.append(what == 0 ? "" : "/").append(x.at(i, what));
-            }
-            all.append(' ').append(lettersOf(x, i));
-        }
-        return all.toString();
-    }
-
-    /** The letters alone of all lines but the job's. */
-    private static String expandedLetters(String... lines) {
-        JobText x = of(lines);
-        int n = x.expand();
-        StringBuilder all = new StringBuilder();
-        for (int i = 1; i < n; i++) {
-            all.append(i == 1 ? "" : "|").append(lettersOf(x, i));
-        }
-        return n < 0 ? "" + n : all.toString();
-    }
-
-    private static int expandOf(String... lines) {
-        JobText x = of(lines);
-        return x.expand();
-    }
-
-    private static String[] joined(String[] head, String... tail) {
-        String[] all = new String[head.length + tail.length];
-        System.arraycopy(head, 0, all, 0, head.length);
-        System.arraycopy(tail, 0, all, head.length, tail.length);
-        return all;
+        end();
     }
 
     // ---- promise 1
@@ -658,12 +541,6 @@ public final class PromiseTests {
         due("-4 ahead of a ring", outcomeOf(joined(head, "//P PROC", "// EXEC P", "//D DD &B.5", "// PEND", "// EXEC P")), "-4 0 ");
         due("-4 ahead of -6", outcomeOf(joined(head, "//P PROC", "// PEND", "// EXEC P", "//S.D DD", "//S.E DD &B.5")), "-4 0 ");
         due("-4 of the EXEC ahead of its overrides", outcomeOf(joined(head, "// EXEC N,A=&B.5", "//M DD &A")), "-4 0 ");
-    }
-
-    /** What expand() answers, how many symbols are missing, and the ring's name. */
-    private static String outcomeOf(String... lines) {
-        JobText x = of(lines);
-        return x.expand() + " " + x.count(5) + " " + ringOf(x);
     }
 
     private static void expandFailures() {

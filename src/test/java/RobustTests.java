@@ -34,23 +34,13 @@ public final class RobustTests {
         return random.nextInt(4) == 0 ? random.nextInt() : EDGES[random.nextInt(EDGES.length)];
     }
 
-    private static void load(JobText x, String text) {
-        for (int i = 0; i < text.length(); i += 8) {
-            long c = 0;
-            for (int k = i; k < i + 8 && k < text.length(); k++) {
-                c = c << 8 | text.charAt(k);
-            }
-            x.sign(c);
-        }
-    }
-
     private static void run(Random random) {
         JobText x = new JobText();
         for (int call = 0; call < 700; call++) {
             switch (random.nextInt(14)) {
                 case 0: x.sign(random.nextLong()); break;
-                case 1: case 2: case 3: load(x, PARTS[random.nextInt(PARTS.length)] + PARTS[random.nextInt(PARTS.length)]); break;
-                case 4: load(x, "//J JOB\n".substring(x.count(0) == 0 ? 0 : 7)); break;
+                case 1: case 2: case 3: TextTest.load(x, PARTS[random.nextInt(PARTS.length)] + PARTS[random.nextInt(PARTS.length)]); break;
+                case 4: TextTest.load(x, "//J JOB\n".substring(x.count(0) == 0 ? 0 : 7)); break;
                 case 5: {
                     int read = random.nextInt(4) == 0 ? x.read() : 0;
                     due("read " + read, read >= 0 ? read == x.count(2) || read == 0 : x.count(2) == 0 && x.count(6) == 0);
@@ -83,7 +73,7 @@ public final class RobustTests {
             }
             JobText x = new JobText();
             for (int n = 0; n < 3; n++) {
-                load(x, text.toString());
+                TextTest.load(x, text.toString());
                 due("the text is full", x.count(0) == 3000);
                 x.read();
                 x.expand();
