@@ -58,7 +58,7 @@ public final class JobText {
         signs = new byte[TEXT_SIGNS];
         faults = new Faults();
         library = new ArrayList<Body>();
-        expander = new Expander(library);
+        expander = new Expander();
     }
 
     public void sign(long c) {
@@ -125,7 +125,7 @@ public final class JobText {
         if (!hasJob()) {
             return NO_JOB;
         }
-        expander.start(text);
+        expander.start(text, library);
         for (int n = 0; n < MANY && expander.goesOn(); n++) {
             expander.advance();
         }
@@ -1213,23 +1213,18 @@ public final class JobText {
 
     /** Expands a job: a stack of frames, and rows and overrides that are given back when a frame ends. */
     private static final class Expander {
-        private final ArrayList<Body> library;
         private final Listing listing = new Listing();
         private final Rows rows = new Rows();
         private final Rows sets = new Rows();
         private final ArrayList<Frame> frames = new ArrayList<Frame>();
         private final ArrayList<Change> overrides = new ArrayList<Change>();
-        private ArrayList<Body> procedures;
+        private ArrayList<Body> procedures = new ArrayList<Body>();
+        private ArrayList<Body> library = new ArrayList<Body>();
         private int frameCount;
         private int overrideCount;
         private long called;
         private int missing;
         private int outcome;
-
-        Expander(ArrayList<Body> library) {
-            this.library = library;
-            this.procedures = library;
-        }
 
         Listing listing() {
             return listing;
@@ -1243,12 +1238,13 @@ public final class JobText {
             return nameSign(called, k);
         }
 
-        void start(Text text) {
+        void start(Text text, ArrayList<Body> shelved) {
             listing.clear();
             rows.cut(0);
             sets.cut(0);
             called = 0;
             procedures = text.procedures();
+            library = shelved;
             frameCount = 0;
             overrideCount = 0;
             missing = 0;

@@ -9,7 +9,10 @@ import java.util.Set;
 
 /** Compares JobText with a second reading of the document, made of texts, maps and recursion, on texts by chance (of fixed seeds). */
 public final class ModelTests {
-    private static final int OBJECTS = 6000;
+    private static final int OBJECTS = 9000;
+    // The texts of the objects from this one on have pieces moved, lost and doubled.
+    private static final int FIRST_TORN = 6000;
+    private static final int PIECE = 8;
     private static int wrong = 0;
     private static final Map<Integer, Integer> outcomes = new HashMap<>();
     private static final Map<Integer, Integer> kinds = new HashMap<>();
@@ -42,7 +45,8 @@ public final class ModelTests {
         JobText x = new JobText();
         Model model = new Model();
         for (int texts = 0; texts < 3; texts++) {
-            String text = new Maker(random).text(texts < 2);
+            String made = new Maker(random).text(texts < 2);
+            String text = seed < FIRST_TORN ? made : torn(made, random);
             TextTest.load(x, text);
             String what = "seed " + seed + " text " + texts + "\n" + text;
             due(what + "read", x.read(), model.read(text));
@@ -57,6 +61,28 @@ public final class ModelTests {
             }
             due(what + "state behind expand", state(x), model.state());
         }
+    }
+
+    /** The text cut into pieces as long as a call of sign takes, some of which are moved, lost or doubled. */
+    private static String torn(String text, Random random) {
+        List<String> pieces = new ArrayList<>();
+        for (int from = 0; from < text.length(); from += PIECE) {
+            pieces.add(text.substring(from, Math.min(text.length(), from + PIECE)));
+        }
+        for (int n = random.nextInt(4); n > 0 && !pieces.isEmpty(); n--) {
+            String piece = pieces.get(random.nextInt(pieces.size()));
+            int at = random.nextInt(pieces.size());
+            switch (random.nextInt(3)) {
+                case 0: pieces.remove(at); break;
+                case 1: pieces.add(at, piece); break;
+                default: pieces.set(at, piece);
+            }
+        }
+        return cut(String.join("", pieces), 3000);
+    }
+
+    private static String cut(String text, int most) {
+        return text.substring(0, Math.min(text.length(), most));
     }
 
     /** All that the object tells, as one text. */
@@ -142,7 +168,7 @@ public final class ModelTests {
                     }
                 }
             }
-            return all.length() > 1600 && faulty ? all.substring(0, 1600) : all.length() > 3000 ? all.substring(0, 3000) : all.toString();
+            return cut(all.toString(), faulty ? 1600 : 3000);
         }
 
         void procedure(String name, Set<String> names) {
