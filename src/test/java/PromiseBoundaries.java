@@ -537,6 +537,9 @@ public final class PromiseBoundaries extends TextTest {
         for (int i = 0; i < dds.length; i++) {
             due(dds[i] + " by " + overrides[i], merged(dds[i], overrides[i]), want[i]);
         }
+        due("a key twice, of one that is there", merged("K=1,K=2", "K=8,K=9"), "2 K=9,K=2");
+        due("a key twice, of none that is there", merged("A", "K=8,L=7,K=9"), "3 A,K=9,L=7");
+        due("a key twice, added", steps("//T.X DD K=8,K=9"), "4/2/1/1/0 PGM=S|5/3/1/2/0 1,K=1|6/2/1/1/0 PGM=T|7/3/1/2/0 2,K=2|8/3/1/0/0 |14/3/1/2/1 K=8,K=9");
         due("two of one DD, one behind another", linesOf("//J JOB", "//P PROC", "//S EXEC PGM=A", "//D DD A,K=1", "// PEND", "// EXEC P", "//D DD B,K=2,L=3", "//S.D DD L=4,C"), "1/1/0/0/0 |6/2/0/1/0 P|3/2/1/1/0 PGM=A|4/3/1/3/1 C,K=2,L=4");
     }
 
